@@ -265,26 +265,25 @@ public final class TypeFold {
             count = 0;
         }
 
-        /** The byte at a place; 0 behind the end, as out asks. */
         int at(int k) {
-            if (k < 0 || k >= count) {
-                return 0;
-            }
-            return (int) (words[k >> 3] >>> ((k & 7) * 8)) & 255;
+            return (int) number(k, 1);
         }
 
-        /** The number of n bytes from k on. */
+        /** The number of n bytes from k on; those behind the end are 0, as out asks. */
         long number(int k, int n) {
             long sum = 0;
             for (int b = 0; b < n && b < 8; b++) {
-                sum |= (long) at(k + b) << (8 * b);
+                int p = k + b;
+                if (p >= 0 && p < count) {
+                    sum |= (words[p >> 3] >>> 8 * (p & 7) & 255) << 8 * b;
+                }
             }
             return sum;
         }
 
         void addLowest(int n, long v) {
             for (int b = 0; b < n && b < 8; b++) {
-                addByte(v >> (8 * b) & 255);
+                addByte(v >> 8 * b & 255);
             }
         }
 
@@ -307,34 +306,33 @@ public final class TypeFold {
             if (count >= most) {
                 return;
             }
-            int shift = (count & 7) * 8;
+            int shift = 8 * (count & 7);
             int k = count >> 3;
             words[k] = words[k] & ~(255L << shift) | b << shift;
             count++;
         }
     }
 
-    /** How a type lies in a row of bytes, its first byte being at a place: words of 4 bytes each. */
+    /**
+     * How a type lies in its bytes: words of 4 bytes each, the first its name, the second its info (V,
+     * KIND and FLAG), the third R, then what follows by kind.
+     */
     private static final class Layout {
-        static int kind(Row row, int at) {
-            return (int) (row.number(at + 4, 4) >> 24) & 31;
+        static int kind(long info) {
+            return (int) (info >> 24) & 31;
         }
 
-        static int tally(Row row, int at) {
-            return (int) row.number(at + 4, 2);
+        static int tally(long info) {
+            return (int) info & 0xffff;
         }
 
-        static int flag(Row row, int at) {
-            return (int) (row.number(at + 4, 4) >> 31);
+        static int flag(long info) {
+            return (int) (info >> 31) & 1;
         }
 
-        static int items(Row row, int at) {
-            return itemWords(kind(row, at)) == 0 ? 0 : tally(row, at);
-        }
-
-        static int words(Row row, int at) {
-            int kind = kind(row, at);
-            return 3 + fixedWords(kind) + itemWords(kind) * tally(row, at);
+        static int words(long info) {
+            int kind = kind(info);
+            return 3 + fixedWords(kind) + itemWords(kind) * tally(info);
         }
 
         static int fixedWords(int kind) {
@@ -424,7 +422,7 @@ public final class TypeFold {
                     return found;
                 }
                 highest = Math.max(highest, highestReference(text, at));
-                at += 4 * Layout.words(text, at);
+                at += 4 * Layout.words(text.number(at + 4, 4));
             }
             int n = stood;
             stood = 0;
@@ -432,32 +430,35 @@ public final class TypeFold {
         }
 
         private int typeError(Row text, int at, int end) {
-            if (at + 12 > end || at + 4 * Layout.words(text, at) > end) {
+            long info = text.number(at + 4, 4);
+            int kind = Layout.kind(info);
+            // What lies behind the end may be read as info here, but never as fewer words than three.
+            if (at + 4 * Layout.words(info) > end) {
                 return 3;
             }
-            items += Layout.items(text, at);
-            if (stood > TYPES_MOST || items > ITEMS_MOST || !headHolds(text, at) || !restHolds(text, at)) {
+            items += Layout.itemWords(kind) == 0 ? 0 : Layout.tally(info);
+            if (stood > TYPES_MOST || items > ITEMS_MOST || !infoHolds(info)
+                    || !restHolds(kind, text.number(at + 8, 4), text.number(at + 12, 4))) {
                 return 4;
             }
-            return namesHold(text, at, end) ? 0 : 5;
+            return namesLieWithin(text, at, end) && ownNameHolds(kind, text, at, end) ? 0 : 5;
         }
 
-        private static boolean headHolds(Row text, int at) {
-            int kind = Layout.kind(text, at);
-            int tally = Layout.tally(text, at);
-            if (kind < INT || kind > PROTOTYPE || (text.number(at + 4, 4) & 0x60ff0000L) != 0) {
+        private static boolean infoHolds(long info) {
+            int kind = Layout.kind(info);
+            if (kind < INT || kind > PROTOTYPE || (info & 0x60ff0000L) != 0) {
                 return false;
             }
-            if (Layout.itemWords(kind) == 0 && tally > (kind == FUNCTION ? 2 : 0)) {
+            if (Layout.itemWords(kind) == 0 && Layout.tally(info) > (kind == FUNCTION ? 2 : 0)) {
                 return false;
             }
-            return Layout.flag(text, at) == 0 || kind >= STRUCT && kind <= FORWARD;
+            return Layout.flag(info) == 0 || kind >= STRUCT && kind <= FORWARD;
         }
 
-        private static boolean restHolds(Row text, int at) {
-            long rest = text.number(at + 8, 4);
-            switch (Layout.kind(text, at)) {
-                case INT: return (isSmallSize(rest) || rest == 16) && intHolds(text.number(at + 12, 4), rest);
+        /** The word behind R counts for INT alone, which always has it. */
+        private static boolean restHolds(int kind, long rest, long behind) {
+            switch (kind) {
+                case INT: return (isSmallSize(rest) || rest == 16) && intHolds(behind, rest);
                 case ENUM: return isSmallSize(rest);
                 case ARRAY: case FORWARD: return rest == 0;
                 default: return true;
@@ -474,16 +475,20 @@ public final class TypeFold {
             return (word & 0xf000ff00L) == 0 && bits >= 1 && bits + shift <= 8 * size;
         }
 
-        /** The strings begin where the types end. */
-        private static boolean namesHold(Row text, int at, int strings) {
-            int kind = Layout.kind(text, at);
-            int words = Layout.words(text, at);
+        private static boolean namesLieWithin(Row text, int at, int strings) {
+            long info = text.number(at + 4, 4);
+            int kind = Layout.kind(info);
+            int words = Layout.words(info);
             for (int w = 0; w < words; w++) {
-                if (Layout.role(kind, w) == NAME
-                        && strings + text.number(at + 4 * w, 4) >= text.count()) {
+                if (Layout.role(kind, w) == NAME && strings + text.number(at + 4 * w, 4) >= text.count()) {
                     return false;
                 }
             }
+            return true;
+        }
+
+        /** A name is empty by having no letters, wherever among the strings it is told to be. */
+        private static boolean ownNameHolds(int kind, Row text, int at, int strings) {
             boolean empty = text.at(strings + (int) text.number(at, 4)) == 0;
             switch (kind) {
                 case STRUCT: case UNION: case ENUM: return true;
@@ -493,8 +498,9 @@ public final class TypeFold {
         }
 
         private static long highestReference(Row text, int at) {
-            int kind = Layout.kind(text, at);
-            int words = Layout.words(text, at);
+            long info = text.number(at + 4, 4);
+            int kind = Layout.kind(info);
+            int words = Layout.words(info);
             long highest = 0;
             for (int w = 0; w < words; w++) {
                 if (Layout.role(kind, w) == TYPE) {
@@ -508,12 +514,16 @@ public final class TypeFold {
     /** The types of the latest text that was accepted. */
     private static final class Types {
         private final int[] at;
+        private final long[] info;
+        private final int[] words;
         private Row text;
         private int count;
         private int strings;
 
         Types() {
             at = new int[TYPES_MOST + 1];
+            info = new long[TYPES_MOST + 1];
+            words = new int[TYPES_MOST + 1];
             text = new Row(TAPE_MOST);
             count = 0;
             strings = 0;
@@ -528,8 +538,10 @@ public final class TypeFold {
             int next = HEAD;
             for (int i = 1; i <= TYPES_MOST && next < strings; i++) {
                 at[i] = next;
+                info[i] = text.number(next + 4, 4);
+                words[i] = Layout.words(info[i]);
                 count = i;
-                next += 4 * Layout.words(text, next);
+                next += 4 * words[i];
             }
             return old;
         }
@@ -555,19 +567,19 @@ public final class TypeFold {
         }
 
         int kind(int i) {
-            return has(i) ? Layout.kind(text, at[i]) : VOID;
+            return has(i) ? Layout.kind(info[i]) : VOID;
         }
 
         int tally(int i) {
-            return has(i) ? Layout.tally(text, at[i]) : 0;
+            return has(i) ? Layout.tally(info[i]) : 0;
         }
 
         int flag(int i) {
-            return has(i) ? Layout.flag(text, at[i]) : 0;
+            return has(i) ? Layout.flag(info[i]) : 0;
         }
 
         int words(int i) {
-            return has(i) ? Layout.words(text, at[i]) : 0;
+            return has(i) ? words[i] : 0;
         }
 
         long word(int i, int w) {
@@ -787,7 +799,7 @@ public final class TypeFold {
             int filled = 1;
             for (int q = 0; q < filled && q < queue.length; q++) {
                 for (int r = from[queue[q]]; r < from[queue[q] + 1]; r++) {
-                    if (!reached[ends[r]]) {
+                    if (!reached[ends[r]] && filled < queue.length) {
                         reached[ends[r]] = true;
                         queue[filled] = ends[r];
                         filled++;
@@ -798,9 +810,9 @@ public final class TypeFold {
     }
 
     /**
-     * Classes of types that are alike, from depth to depth. A class that splits goes on as the class
-     * of its first type; the others are born of it at that depth, so that the births alone tell to
-     * which depth any two types are alike.
+     * Classes of types that are alike, from depth to depth; at depth 0 all are in class 0, VOID too.
+     * A class that splits goes on as the class of its first type, which so stays its leader; the others
+     * are born of it at that depth, so that the births alone tell how deep any two types are alike.
      */
     private static final class Folding {
         private final int[] now;
@@ -830,6 +842,7 @@ public final class TypeFold {
             for (int i = 0; i <= n; i++) {
                 now[i] = 0;
             }
+            first[0] = VOID;
             count = 1;
             latestBirth = 0;
             // Every round but the last splits a class, and with VOID's there are at most TYPES_MOST + 1.
@@ -877,7 +890,6 @@ public final class TypeFold {
         private boolean refine(int depth, Types types, Names names, Links links) {
             int before = count;
             for (int c = 0; c < count; c++) {
-                first[c] = -1;
                 sibling[c] = -1;
             }
             for (int i = 0; i <= types.count(); i++) {
@@ -885,9 +897,6 @@ public final class TypeFold {
             }
             for (int i = 0; i <= types.count(); i++) {
                 int c = was[i];
-                if (first[c] < 0) {
-                    first[c] = i;
-                }
                 for (int steps = 0; steps <= count && !alike(first[c], i, depth, types, names, links); steps++) {
                     if (sibling[c] < 0) {
                         sibling[c] = born(was[i], i, depth);
@@ -953,7 +962,6 @@ public final class TypeFold {
 
         private void numberLeaders(int n) {
             int number = 0;
-            fresh[VOID] = 0;
             for (int i = 1; i <= n; i++) {
                 if (leader(i) == i) {
                     number++;
@@ -991,7 +999,10 @@ public final class TypeFold {
         }
 
         private static boolean leansOnAnother(int kind) {
-            return kind == ARRAY || kind >= DEFINED && kind <= RESTRICT;
+            switch (kind) {
+                case ARRAY: case DEFINED: case VOLATILE: case CONST: case RESTRICT: return true;
+                default: return false;
+            }
         }
 
         private static long ownBytes(Types types, int i) {

@@ -247,7 +247,8 @@ public final class PromisesTest {
 
     private static void intWord(String what, boolean holds, int size, long word) {
         Text text = new Text();
-        refused("INT " + what, holds ? 0 : 4, holds ? 0 : 1, text.words(text.place("i"), Text.info(1, 0, 0), size, word));
+        text.words(text.place("i"), Text.info(1, 0, 0), size, word);
+        refused("INT " + what, holds ? 0 : 4, holds ? 0 : 1, text);
     }
 
     private static void promise3Ints() {
@@ -307,6 +308,30 @@ public final class PromisesTest {
         refused("members, values, parameters, 600", 0, 0, values(300).prototype(0, params(298)).struct("", 0, "", 0, 0)
                 .composite(5, "", 0, 0, "", 0, 0));
         refused("V of FUNCTION isn't counted", 0, 0, values(600).function("f", 2, 0));
+        limitsOfEachLoad();
+    }
+
+    /** 200 types and 600 values, all their names different: what one load counts, the next doesn't. */
+    private static void limitsOfEachLoad() {
+        Text text = new Text();
+        int at = text.letters("y".repeat(800));
+        for (int i = 1; i < 200; i++) {
+            text.words(at + 800 - i, Text.info(7, 0, 0), 0);
+        }
+        text.words(at + 600, Text.info(6, 600, 0), 4);
+        for (int k = 0; k < 600; k++) {
+            text.words(at + 599 - k, 0);
+        }
+        TypeFold x = new TypeFold();
+        for (int loads = 0; loads < 3; loads++) {
+            Due.is("all that a text may have, load " + loads, 0, Calls.load(x, text));
+            Due.is("types", 200, x.look(1));
+            for (int i = 1; i <= 200; i++) {
+                Due.is("letters of " + i, i, x.type(i, 5));
+            }
+            Due.is("far too long", -1, x.write());
+            Due.is("refused again", 4, Calls.load(x, values(601)));
+        }
     }
 
     private static Object[] params(int n) {
@@ -530,6 +555,9 @@ public final class PromisesTest {
                 Due.is("apart in a chain, " + j + " and " + i, 202 - j, x.apart(j, i));
             }
         }
+        Due.is("references of the last", 1, x.type(200, 4));
+        Due.is("reference of the last", 0, x.reference(200, 0));
+        Due.is("reference of the one ahead", 200, x.reference(199, 0));
         Due.is("the deepest apart", 200, x.apart(1, 2));
         Due.is("the greatest depth", 199, x.look(6));
         Due.is("all are classes", 200, x.look(1));
