@@ -37,6 +37,12 @@ final class Calls {
         return x;
     }
 
+    static byte[] written(TypeFold x) {
+        int n = x.write();
+        Due.is("write tells its bytes", n, x.look(3));
+        return outOf(x);
+    }
+
     static byte[] outOf(TypeFold x) {
         byte[] all = new byte[x.look(3)];
         for (int k = 0; k < all.length; k++) {

@@ -4,15 +4,37 @@ import java.util.function.LongSupplier;
 final class Due {
     private static int wrong = 0;
     private static int asked = 0;
+    private static int sentences = 0;
+    private static int askedBefore = 0;
+    private static String sentence = "";
 
     private Due() {
+    }
+
+    /** What is asked from here on tests these words of the document; words that nothing tests are a fault. */
+    static void sentence(String words) {
+        closeSentence();
+        sentences++;
+        sentence = words;
+        askedBefore = asked;
+    }
+
+    private static void closeSentence() {
+        if (!sentence.isEmpty() && asked == askedBefore) {
+            wrong++;
+            System.out.println("nothing tests: " + sentence);
+        }
+    }
+
+    private static void told(String fault) {
+        wrong++;
+        System.out.println((sentence.isEmpty() ? "" : "\"" + sentence + "\": ") + fault);
     }
 
     static void is(String what, long want, long got) {
         asked++;
         if (want != got) {
-            wrong++;
-            System.out.println(what + " answered " + got + ", due is " + want);
+            told(what + " answered " + got + ", due is " + want);
         }
     }
 
@@ -20,12 +42,10 @@ final class Due {
         asked++;
         try {
             long got = call.getAsLong();
-            wrong++;
-            System.out.println(what + " answered " + got + ", due is " + want.getSimpleName());
+            told(what + " answered " + got + ", due is " + want.getSimpleName());
         } catch (RuntimeException e) {
             if (e.getClass() != want) {
-                wrong++;
-                System.out.println(what + " threw " + e + ", due is " + want.getSimpleName());
+                told(what + " threw " + e + ", due is " + want.getSimpleName());
             }
         }
     }
@@ -35,12 +55,15 @@ final class Due {
         for (int k = 0; k < Math.min(want.length, got.length); k++) {
             if (want[k] != got[k]) {
                 is(what + ": byte " + k, want[k] & 255, got[k] & 255);
+                return;
             }
         }
     }
 
     static void end(String test) {
-        System.out.println(test + ": " + asked + " answers, " + wrong + " not as due");
+        closeSentence();
+        System.out.println(test + ": " + asked + " answers" + (sentences == 0 ? "" : " to " + sentences + " sentences")
+                + ", " + wrong + " not as due");
         if (wrong != 0 || asked == 0) {
             System.exit(1);
         }

@@ -1,8 +1,9 @@
-import java.io.ByteArrayOutputStream;
-import java.util.Arrays;
 import java.util.NoSuchElementException;
 
-/** The promises of the document in their order: ordinary inputs, the edges that it names, wrong inputs. */
+/**
+ * The promises of the document in their order, with ordinary inputs and some wrong ones; what the document
+ * bounds is in TextTest, ErrorsTest, BoundsTest and ChangesTest.
+ */
 public final class PromisesTest {
     private static final Class<IllegalArgumentException> ARGUMENT = IllegalArgumentException.class;
     private static final Class<IllegalStateException> STATE = IllegalStateException.class;
@@ -11,15 +12,7 @@ public final class PromisesTest {
     public static void main(String[] args) {
         promise1();
         promise2();
-        promise3Heads();
-        promise3Bytes();
-        promise3Forms();
-        promise3Ints();
-        promise3Limits();
-        promise3Names();
-        promise3References();
-        promise3OrderOfErrors();
-        promise3TypesStay();
+        promise3();
         promise4();
         promise5();
         promise6();
@@ -29,16 +22,10 @@ public final class PromisesTest {
         promise9();
         promise10();
         promise10Names();
-        promise10TooLong();
         promise11();
         promise12();
         promise13();
         Due.end("PromisesTest");
-    }
-
-    /** int, a pointer to it, a struct with both, a second pointer: 4 is one with 2. */
-    private static Text small() {
-        return new Text().integer("int", 4, 32).pointer(1).struct("s", 16, "x", 1, 0, "y", 2, 64).pointer(1);
     }
 
     private static void promise1() {
@@ -74,7 +61,6 @@ public final class PromisesTest {
         Due.throwing("feed most", ARGUMENT, () -> x.feed(Integer.MAX_VALUE, 1));
         Due.is("tape behind refused feeds", sum, x.look(2));
         lowestBytesOnly();
-        fullTape();
     }
 
     private static void lowestBytesOnly() {
@@ -90,364 +76,16 @@ public final class PromisesTest {
         Due.is("feeds come behind one another", 2, x.find(0, 1));
     }
 
-    private static void fullTape() {
+    private static void promise3() {
         TypeFold x = new TypeFold();
-        for (int k = 0; k < 1023; k++) {
-            x.feed(8, 0);
-        }
-        x.feed(1, 0);
-        Due.throwing("feed of 8 to 8185", STATE, () -> x.feed(8, 0));
-        Due.throwing("feed of 9 to 8185", ARGUMENT, () -> x.feed(9, 0));
-        Due.is("feed up to the brim", 8192, x.feed(7, 0));
-        Due.throwing("feed of 1 to a full tape", STATE, () -> x.feed(1, 0));
-        Due.throwing("feed of 0 to a full tape", ARGUMENT, () -> x.feed(0, 0));
-        Due.is("full tape", 8192, x.look(2));
-        Due.is("load of a full tape", 1, x.load());
-        Due.is("tape is used up", 0, x.look(2));
-    }
-
-    private static void refused(String what, int error, int stood, byte[] bytes) {
-        TypeFold x = new TypeFold();
-        Due.is(what + ": load", error, Calls.load(x, bytes));
-        Due.is(what + ": error", error, x.look(4));
-        Due.is(what + ": stood at", stood, x.look(5));
-        Due.is(what + ": the tape is used up", 0, x.look(2));
-    }
-
-    private static void refused(String what, int error, int stood, Text text) {
-        refused(what, error, stood, text.done());
-    }
-
-    private static byte[] with(byte[] bytes, int at, int b) {
-        byte[] other = bytes.clone();
-        other[at] = (byte) b;
-        return other;
-    }
-
-    private static void promise3Heads() {
-        byte[] good = small().done();
-        refused("good", 0, 0, good);
-        refused("no types", 0, 0, new Text());
-        refused("no bytes", 1, 0, new byte[0]);
-        refused("23 bytes", 1, 0, Arrays.copyOf(good, 23));
-        refused("24 bytes", 2, 0, Arrays.copyOf(good, 24));
-        for (int k = 0; k < 12; k++) {
-            refused("head byte " + k, 1, 0, with(good, k, good[k] ^ 0x20));
-        }
-        refused("24 in at 4, but above", 1, 0, with(good, 7, 128));
-        for (int k = 12; k < 24; k++) {
-            refused("head byte " + k, 2, 0, with(good, k, good[k] + 1));
-        }
-        refused("T is most", 2, 0, headOf(0xffffffffL, 0xffffffffL, 1, 0));
-        refused("T and S go round", 2, 0, headOf(0xffffffffL, 0xffffffffL, 2, 0, 0));
-        refused("T and S go round to nothing", 2, 0, headOf(0x80000000L, 0x80000000L, 0x80000001L, 0));
-        refused("S is 0", 2, 0, headOf(0, 0, 0));
-        refused("one byte behind", 2, 0, Arrays.copyOf(good, good.length + 1));
-        refused("one byte less", 2, 0, Arrays.copyOf(good, good.length - 1));
-        refused("the strings' first byte", 2, 0, headOf(0, 0, 2, 1, 0));
-        refused("the strings' last byte", 2, 0, headOf(0, 0, 2, 0, 1));
-        refused("the strings' only byte", 2, 0, headOf(0, 0, 1, 7));
-        refused("the strings' only byte is 0", 0, 0, headOf(0, 0, 1, 0));
-        refused("an error of the head goes ahead", 1, 0, with(Arrays.copyOf(good, 30), 0, 0));
-    }
-
-    private static byte[] headOf(long t, long again, long s, int... behind) {
-        ByteArrayOutputStream all = new ByteArrayOutputStream();
-        all.writeBytes(new byte[] {(byte) 0x9f, (byte) 0xeb, 1, 0, 24, 0, 0, 0, 0, 0, 0, 0});
-        Text.put4(all, t);
-        Text.put4(all, again);
-        Text.put4(all, s);
-        for (int b : behind) {
-            all.write(b);
-        }
-        return all.toByteArray();
-    }
-
-    private static void promise3Bytes() {
-        for (int more = 1; more < 12; more++) {
-            refused(more + " bytes of a type", 3, 5, small().rawTypeBytes(new int[more]));
-        }
-        refused("12 bytes of zeros", 4, 5, small().rawTypeBytes(new int[12]));
-        refused("INT without its word", 3, 1, new Text().words(1, Text.info(1, 0, 0), 4));
-        refused("ARRAY without a word", 3, 1, new Text().words(0, Text.info(3, 0, 0), 0, 0, 0));
-        refused("STRUCT without a word", 3, 2, new Text().pointer(0).words(0, Text.info(4, 2, 0), 0, 0, 0, 0, 0, 0));
-        refused("UNION without a word", 3, 1, new Text().words(0, Text.info(5, 1, 0), 0, 0, 0));
-        refused("ENUM without a word", 3, 1, new Text().words(0, Text.info(6, 1, 0), 4, 0));
-        refused("PROTOTYPE without a word", 3, 1, new Text().words(0, Text.info(13, 1, 0), 0, 0));
-        refused("STRUCT of 65535", 3, 1, new Text().words(0, Text.info(4, 65535, 0), 0));
-        refused("FUNCTION has nothing behind", 4, 1, new Text().words(0, Text.info(12, 9, 0), 0));
-        refused("3 goes ahead of 4", 3, 1, new Text().words(0, 0x60ff0000L | Text.info(13, 9, 1), 0));
-        refused("what follows by KIND alone", 3, 1, new Text().words(0, Text.info(1, 7, 1), 5));
-    }
-
-    private static void promise3Forms() {
-        for (int kind = 0; kind < 32; kind++) {
-            boolean known = kind >= 1 && kind <= 13;
-            refused("kind " + kind, known ? 0 : 4, known ? 0 : 1, plain(kind, Text.info(kind, 0, 0)));
-            if (known) {
-                boolean flagged = kind >= 4 && kind <= 7;
-                refused("flag of kind " + kind, flagged ? 0 : 4, flagged ? 0 : 1, plain(kind, Text.info(kind, 0, 1)));
-                for (int bit : new int[] {16, 19, 23, 29, 30}) {
-                    refused("bit " + bit + " of kind " + kind, 4, 1, plain(kind, Text.info(kind, 0, 0) | 1L << bit));
-                }
-                tallies(kind);
-                rests(kind);
-            }
-        }
-    }
-
-    /** A type that holds in all but, perhaps, the word that tells its kind. */
-    private static Text plain(int kind, long info) {
-        boolean named = kind == 1 || kind == 7 || kind == 8 || kind == 12;
-        return plain(kind, info, kind == 1 || kind == 6 ? 1 : 0, named ? "a" : "");
-    }
-
-    private static Text plain(int kind, long info, long rest, String name) {
-        Text text = new Text();
-        text.words(text.place(name), info, rest);
-        if (kind == 1) {
-            text.words(8);
-        }
-        if (kind == 3) {
-            text.words(0, 0, 0);
-        }
-        return text;
-    }
-
-    private static void tallies(int kind) {
-        if (kind == 4 || kind == 5 || kind == 6 || kind == 13) {
-            Text text = plain(kind, Text.info(kind, 1, 0)).words(0, 0);
-            refused("1 of kind " + kind, 0, 0, kind < 6 ? text.words(0) : text);
-            return;
-        }
-        for (int v : new int[] {1, 2, 3, 4, 256, 65535}) {
-            int error = kind == 12 && v <= 2 ? 0 : 4;
-            refused("V " + v + " of kind " + kind, error, error == 0 ? 0 : 1, plain(kind, Text.info(kind, v, 0)));
-        }
-    }
-
-    private static void rests(int kind) {
-        boolean named = kind == 1 || kind == 7 || kind == 8 || kind == 12;
-        for (long rest : new long[] {0, 1, 2, 3, 4, 5, 6, 7, 8, 9, 12, 15, 16, 17, 32, 0x80000000L, 0xffffffffL}) {
-            boolean small = rest == 1 || rest == 2 || rest == 4 || rest == 8;
-            int error = 0;
-            if (kind == 1) {
-                error = small || rest == 16 ? 0 : 4;
-            } else if (kind == 6) {
-                error = small ? 0 : 4;
-            } else if (kind == 3 || kind == 7) {
-                error = rest == 0 ? 0 : 4;
-            } else if (kind != 4 && kind != 5) {
-                error = rest <= 1 ? 0 : 6;
-            }
-            refused("R " + rest + " of kind " + kind, error, error == 4 ? 1 : 0,
-                    plain(kind, Text.info(kind, 0, 0), rest, named ? "a" : ""));
-        }
-    }
-
-    private static void intWord(String what, boolean holds, int size, long word) {
-        Text text = new Text();
-        text.words(text.place("i"), Text.info(1, 0, 0), size, word);
-        refused("INT " + what, holds ? 0 : 4, holds ? 0 : 1, text);
-    }
-
-    private static void promise3Ints() {
-        intWord("no bits", false, 4, 0);
-        intWord("no bits but a shift", false, 4, 0x00010000);
-        intWord("1 bit", true, 4, 1);
-        intWord("all bits", true, 4, 32);
-        intWord("one bit more", false, 4, 33);
-        intWord("shift and bits", true, 4, 0x00100010);
-        intWord("shift and bits, one more", false, 4, 0x00110010);
-        intWord("shift and bits, one more bit", false, 4, 0x00100011);
-        intWord("size 1", true, 1, 8);
-        intWord("size 1 and 9 bits", false, 1, 9);
-        intWord("size 2", true, 2, 0x00010000 | 15);
-        intWord("size 2, one more", false, 2, 0x00010000 | 16);
-        intWord("size 8", true, 8, 64);
-        intWord("size 8, 65 bits", false, 8, 65);
-        intWord("size 16", true, 16, 128);
-        intWord("size 16, 129 bits", false, 16, 129);
-        intWord("size 16, 255 and 255", false, 16, 0x00ff00ff);
-        intWord("shift 127, 1 bit", true, 16, 0x007f0001);
-        intWord("every code", true, 4, 0x0f000020);
-        for (int bit : new int[] {8, 11, 15, 28, 30, 31}) {
-            intWord("bit " + bit, false, 4, 1L << bit | 8);
-        }
-    }
-
-    private static Text pointers(int n) {
-        Text text = new Text();
-        for (int k = 0; k < n; k++) {
-            text.pointer(0);
-        }
-        return text;
-    }
-
-    private static Text values(int... each) {
-        Text text = new Text();
-        for (int v : each) {
-            text.words(0, Text.info(6, v, 0), 4).words(new long[2 * v]);
-        }
-        return text;
-    }
-
-    private static void promise3Limits() {
-        refused("200 types", 0, 0, pointers(200));
-        refused("201 types", 4, 201, pointers(201));
-        refused("250 types", 4, 201, pointers(250));
-        refused("200 types and some bytes", 3, 201, pointers(200).rawTypeBytes(0, 0, 0, 0));
-        refused("type 201 refers above", 4, 201, pointers(200).pointer(999));
-        refused("600 values", 0, 0, values(600));
-        refused("601 values", 4, 1, values(601));
-        refused("600 values in three", 0, 0, values(200, 399, 1, 0));
-        refused("601 values in four", 4, 3, values(200, 399, 2, 0));
-        refused("600 and one type more", 0, 0, values(600).pointer(1));
-        refused("members, values, parameters", 4, 4, values(300).prototype(0, params(298)).struct("", 0, "", 0, 0)
-                .composite(5, "", 0, 0, "", 0, 0, "", 0, 0));
-        refused("members, values, parameters, 600", 0, 0, values(300).prototype(0, params(298)).struct("", 0, "", 0, 0)
-                .composite(5, "", 0, 0, "", 0, 0));
-        refused("V of FUNCTION isn't counted", 0, 0, values(600).function("f", 2, 0));
-        limitsOfEachLoad();
-    }
-
-    /** 200 types and 600 values, all their names different: what one load counts, the next doesn't. */
-    private static void limitsOfEachLoad() {
-        Text text = new Text();
-        int at = text.letters("y".repeat(800));
-        for (int i = 1; i < 200; i++) {
-            text.words(at + 800 - i, Text.info(7, 0, 0), 0);
-        }
-        text.words(at + 600, Text.info(6, 600, 0), 4);
-        for (int k = 0; k < 600; k++) {
-            text.words(at + 599 - k, 0);
-        }
-        TypeFold x = new TypeFold();
-        for (int loads = 0; loads < 3; loads++) {
-            Due.is("all that a text may have, load " + loads, 0, Calls.load(x, text));
-            Due.is("types", 200, x.look(1));
-            for (int i = 1; i <= 200; i++) {
-                Due.is("letters of " + i, i, x.type(i, 5));
-            }
-            Due.is("far too long", -1, x.write());
-            Due.is("refused again", 4, Calls.load(x, values(601)));
-        }
-    }
-
-    private static Object[] params(int n) {
-        Object[] all = new Object[2 * n];
-        for (int k = 0; k < n; k++) {
-            all[2 * k] = "";
-            all[2 * k + 1] = 0;
-        }
-        return all;
-    }
-
-    private static void named(String what, int error, int kind, long place) {
-        Text text = new Text();
-        text.letters("ab");
-        text.words(place, Text.info(kind, 0, 0), kind == 1 || kind == 6 ? 1 : 0);
-        if (kind == 1) {
-            text.words(8);
-        }
-        if (kind == 3) {
-            text.words(0, 0, 0);
-        }
-        refused(what + " of kind " + kind, error, error == 0 ? 0 : 1, text);
-    }
-
-    /** The strings are 0 a b 0: place 1 has two letters, place 2 one, places 0 and 3 none. */
-    private static void promise3Names() {
-        for (int kind = 1; kind <= 13; kind++) {
-            boolean needs = kind == 1 || kind == 7 || kind == 8 || kind == 12;
-            boolean free = kind == 4 || kind == 5 || kind == 6;
-            named("place 0", needs ? 5 : 0, kind, 0);
-            named("a name", needs || free ? 0 : 5, kind, 1);
-            named("a name's rest", needs || free ? 0 : 5, kind, 2);
-            named("empty at place 3", needs ? 5 : 0, kind, 3);
-            named("behind the strings", 5, kind, 4);
-            named("far behind", 5, kind, 0x80000000L);
-            named("farthest behind", 5, kind, 0xffffffffL);
-        }
-        for (int kind : new int[] {4, 5, 6, 13}) {
-            for (long place : new long[] {0, 1, 2, 3, 4, 0xffffffffL}) {
-                Text text = new Text();
-                text.letters("ab");
-                text.pointer(0).words(0, Text.info(kind, 2, 0), kind == 6 ? 4 : 0);
-                text.words(0, 0).words(kind < 6 ? new long[1] : new long[0]);
-                text.words(place, 0).words(kind < 6 ? new long[1] : new long[0]);
-                refused("an item's name at " + place + " of kind " + kind, place < 4 ? 0 : 5, place < 4 ? 0 : 2, text);
-            }
-        }
-    }
-
-    private static void promise3References() {
-        long[] above = {3, 4, 0x80000000L, 0xffffffffL};
-        for (long r : above) {
-            int error = r > 3 ? 6 : 0;
-            for (int kind : new int[] {2, 9, 10, 11}) {
-                refused("kind " + kind + " of " + r, error, 0, pointers(2).leaning(kind, r));
-            }
-            refused("DEFINED as " + r, error, 0, pointers(2).defined("d", r));
-            refused("FUNCTION " + r, error, 0, pointers(2).function("d", 0, r));
-            refused("elements " + r, error, 0, pointers(2).array(r, 0, 0));
-            refused("index " + r, error, 0, pointers(2).array(0, r, 0));
-            refused("how many " + r, 0, 0, pointers(2).array(0, 0, r));
-            refused("member " + r, error, 0, pointers(2).struct("", 0, "", 0, 0, "", r, 0));
-            refused("member of UNION " + r, error, 0, pointers(2).composite(5, "", 0, 0, "", r, 0));
-            refused("a member's place " + r, 0, 0, pointers(2).struct("", 0, "", 0, r));
-            refused("a value " + r, 0, 0, pointers(2).enumeration("", 0, 4, "", r));
-            refused("gives " + r, error, 0, pointers(2).prototype(r));
-            refused("parameter " + r, error, 0, pointers(2).prototype(0, "", 0, "", r));
-        }
-        refused("the first refers above", 6, 0, new Text().pointer(3).pointer(0));
-        refused("refers to what comes later", 0, 0, new Text().pointer(2).pointer(0));
-    }
-
-    private static void promise3OrderOfErrors() {
-        refused("4 ahead of 5", 4, 1, new Text().words(99, Text.info(2, 1, 0), 0));
-        refused("4 of R ahead of 5", 4, 1, new Text().words(99, Text.info(7, 0, 0), 1));
-        refused("4 of INT ahead of 5", 4, 1, new Text().words(99, Text.info(1, 0, 0), 1, 0));
-        refused("5 of the first ahead of 3", 5, 1, new Text().words(99, Text.info(2, 0, 0), 0).rawTypeBytes(1));
-        refused("4 of the first ahead of 3", 4, 1, new Text().words(0, Text.info(2, 0, 1), 0).rawTypeBytes(1));
-        refused("5 of a later ahead of 6", 5, 2, new Text().pointer(77).words(99, Text.info(2, 0, 0), 0));
-        refused("3 of a later ahead of 6", 3, 2, new Text().pointer(77).rawTypeBytes(0));
-        refused("2 ahead of 4", 2, 0, Arrays.copyOf(new Text().words(0, 0, 0).done(), 36));
-    }
-
-    private static void promise3TypesStay() {
-        TypeFold x = Calls.loaded(small());
-        x.name(3);
-        Due.is("a refused load", 6, Calls.load(x, new Text().forward("other", 0).pointer(9)));
-        Due.is("types stay", 4, x.look(0));
-        Due.is("classes stay", 3, x.look(1));
-        Due.is("OUT stays", 1, x.look(3));
-        Due.is("kinds stay", 4, x.type(3, 0));
-        Due.is("leaders stay", 2, x.type(4, 6));
-        Calls.feedAll(x, "int");
-        Due.is("names stay", 1, x.find(1, 1));
-        Due.same("the text stays", new Text().integer("int", 4, 32).pointer(1)
-                .struct("s", 16, "x", 1, 0, "y", 2, 64).done(), written(x));
-        Due.is("a refused head", 1, x.load());
-        Due.is("types stay again", 4, x.look(0));
-        int bytes = x.look(3);
-        Due.is("another load", 0, Calls.load(x, new Text().forward("other", 0)));
-        Due.is("new types", 1, x.look(0));
-        Due.is("new classes", 1, x.look(1));
-        Due.is("OUT stays behind a load", bytes, x.look(3));
-        Due.is("no error", 0, x.look(4));
-        Due.throwing("old types are gone", NONE, () -> x.type(2, 0));
-        Due.is("load of no types", 0, Calls.load(x, new Text()));
-        Due.is("no types", 0, x.look(0));
-        Due.is("no classes", 0, x.look(1));
-        Due.throwing("nothing to write", STATE, x::write);
-        Due.is("OUT stays behind a throw", bytes, x.look(3));
-    }
-
-    private static byte[] written(TypeFold x) {
-        int n = x.write();
-        Due.is("write tells its bytes", n, x.look(3));
-        return Calls.outOf(x);
+        Due.is("a good text", 0, Calls.load(x, Loads.small()));
+        Due.is("its types", 4, x.look(0));
+        Due.is("the tape is used up", 0, x.look(2));
+        Due.is("a refused text", 6, Calls.load(x, new Text().pointer(2)));
+        Due.is("the types stay", 4, x.look(0));
+        Due.is("the tape is used up again", 0, x.look(2));
+        Due.is("another good text", 0, Calls.load(x, new Text().pointer(0)));
+        Due.is("has the types now", 1, x.look(0));
     }
 
     private static void is(TypeFold x, int i, long... want) {
@@ -526,7 +164,7 @@ public final class PromisesTest {
     }
 
     private static void promise6() {
-        TypeFold x = Calls.loaded(small());
+        TypeFold x = Calls.loaded(Loads.small());
         Due.is("apart from itself", 0, x.apart(3, 3));
         Due.is("VOID from VOID", 0, x.apart(0, 0));
         Due.is("one", 0, x.apart(2, 4));
@@ -601,6 +239,7 @@ public final class PromisesTest {
         Due.is(what + ": leader", want == 0 ? n - 1 : n, x.type(n, 6));
     }
 
+    /** LABEL of a type: all else that its bytes tell, names being taken by their letters. */
     private static void promise6Labels() {
         apartAs("same INT", 0, new Text().integer("a", 4, 32).integer("a", 4, 32));
         apartAs("name", 1, new Text().integer("a", 4, 32).integer("b", 4, 32));
@@ -659,36 +298,6 @@ public final class PromisesTest {
         }
         for (int i : new int[] {-1, 20, Integer.MAX_VALUE, Integer.MIN_VALUE}) {
             Due.throwing("bytes(" + i + ")", NONE, () -> x.bytes(i));
-        }
-        bytesOfRings();
-        bytesOfMuch();
-    }
-
-    private static void bytesOfRings() {
-        TypeFold x = Calls.loaded(new Text().defined("a", 2).leaning(10, 1).array(3, 0, 0).array(1, 0, 0)
-                .pointer(6).leaning(9, 5).struct("s", 8, "s", 8, 0).array(7, 0, 2));
-        long[] want = {-1, -1, -1, -1, -1, 8, 8, 8, 16};
-        for (int i = 0; i < want.length; i++) {
-            Due.is("bytes(" + i + ") among rings", want[i], x.bytes(i));
-        }
-        Text chain = new Text();
-        for (int i = 1; i < 200; i++) {
-            chain.leaning(10, i + 1);
-        }
-        Due.is("bytes through 199", 2, Calls.loaded(chain.integer("i", 2, 3)).bytes(1));
-    }
-
-    private static void bytesOfMuch() {
-        TypeFold x = Calls.loaded(new Text()
-                .struct("m", 1000000).array(1, 0, 1000000).array(1, 0, 1000001).array(2, 0, 1).array(2, 0, 2)
-                .array(3, 0, 0).array(5, 0, 1).composite(5, "u", 0, 0xffffffffL).array(8, 0, 0xffffffffL)
-                .array(2, 0, 0xffffffffL).array(2, 0, 0).array(11, 0, 0xffffffffL).defined("d", 3)
-                .struct("o", 1).array(14, 0, 0xffffffffL).array(15, 0, 232).array(15, 0, 233));
-        long t = 1000000000000L;
-        long[] want = {-1, 1000000, t, -1, t, -1, -1, -1, 0xffffffffL, -1, -1, 0, 0, -1, 1, 0xffffffffL,
-            996432412440L, -1};
-        for (int i = 0; i < want.length; i++) {
-            Due.is("bytes(" + i + ") of much", want[i], x.bytes(i));
         }
     }
 
@@ -767,11 +376,11 @@ public final class PromisesTest {
                 .integer("i", 4, 0x01000020).array(1, 2, 9).struct("s", 8, "v", 4, 1, "", 0, 2)
                 .composite(5, "", 1, 8, "z", 5, 0).forward("g", 1).defined("i", 1).function("f", 2, 10)
                 .prototype(1, "", 0, "y", 9).leaning(9, 4).leaning(10, 11).leaning(11, 1);
-        Due.same("folded", due.done(), written(x));
-        Due.same("written again", due.done(), written(x));
+        Due.same("folded", due.done(), Calls.written(x));
+        Due.same("written again", due.done(), Calls.written(x));
         TypeFold y = Calls.loaded(due);
         Due.is("folding again folds nothing", y.look(0), y.look(1));
-        Due.same("folded again", due.done(), written(y));
+        Due.same("folded again", due.done(), Calls.written(y));
     }
 
     private static void promise10Names() {
@@ -787,46 +396,9 @@ public final class PromisesTest {
         text.words(second + 3, Text.info(7, 0, 0), 0);
         Text due = new Text().pointer(0).struct("first", 4, "second", 0, 0, "", 0, 0).forward("second", 0)
                 .forward("ond", 0);
-        Due.same("names written anew", due.done(), written(Calls.loaded(text)));
+        Due.same("names written anew", due.done(), Calls.written(Calls.loaded(text)));
         TypeFold nameless = Calls.loaded(new Text().pointer(0).pointer(0));
         Due.is("no names", 24 + 12 + 1, nameless.write());
-    }
-
-    /** One long run of letters, each type being named by its end from some letter on. */
-    private static Text endsOf(int letters, int... lengths) {
-        Text text = new Text();
-        int at = text.letters("x".repeat(letters));
-        for (int n : lengths) {
-            text.words(at + letters - n, Text.info(7, 0, 0), 0);
-        }
-        return text;
-    }
-
-    private static void promise10TooLong() {
-        int[] lengths = new int[20];
-        for (int k = 0; k < 18; k++) {
-            lengths[k] = 900 - k;
-        }
-        lengths[18] = 25;
-        lengths[19] = 27;
-        TypeFold x = Calls.loaded(endsOf(900, lengths));
-        Due.is("just 16384 bytes", 16384, x.write());
-        Due.is("look at 16384", 16384, x.look(3));
-        Due.is("the last byte", 0, x.out(16383));
-        Due.is("letters ahead of it", 0x0078, x.out(16382));
-        x.name(20);
-        lengths[19] = 28;
-        Due.is("load one letter more", 0, Calls.load(x, endsOf(900, lengths)));
-        Due.is("16385 bytes", -1, x.write());
-        Due.is("OUT stays", 27, x.look(3));
-        Due.is("OUT stays as it was", 0x7878787878787878L, x.out(0));
-        int[] many = new int[200];
-        for (int k = 0; k < 200; k++) {
-            many[k] = 5000 - k;
-        }
-        Due.is("far too many bytes", -1, Calls.loaded(endsOf(5000, many)).write());
-        Arrays.fill(many, 5000);
-        Due.is("folded they are few", 24 + 12 + 5002, Calls.loaded(endsOf(5000, many)).write());
     }
 
     private static void promise11() {
@@ -864,7 +436,7 @@ public final class PromisesTest {
     }
 
     private static void promise13() {
-        TypeFold x = Calls.loaded(small());
+        TypeFold x = Calls.loaded(Loads.small());
         int[] want = {4, 3, 0, 0, 0, 0, 0};
         for (int what = 0; what <= 6; what++) {
             Due.is("look(" + what + ")", want[what], x.look(what));
@@ -881,7 +453,7 @@ public final class PromisesTest {
         Due.is("an error at none", 6, Calls.load(x, new Text().pointer(7)));
         Due.is("no type", 0, x.look(5));
         Calls.load(x, new Text().pointer(0).words(0, 0, 0));
-        Due.is("a good load", 0, Calls.load(x, small()));
+        Due.is("a good load", 0, Calls.load(x, Loads.small()));
         Due.is("no error", 0, x.look(4));
         Due.is("no type either", 0, x.look(5));
         for (int what : new int[] {-1, 7, Integer.MAX_VALUE, Integer.MIN_VALUE}) {

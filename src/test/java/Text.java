@@ -132,6 +132,19 @@ final class Text {
         return all.toByteArray();
     }
 
+    /** A text with whatever numbers at 12, 16 and 20, and with whatever bytes behind them. */
+    static byte[] headed(long t, long again, long s, int... behind) {
+        ByteArrayOutputStream all = new ByteArrayOutputStream();
+        all.writeBytes(new byte[] {(byte) 0x9f, (byte) 0xeb, 1, 0, 24, 0, 0, 0, 0, 0, 0, 0});
+        put4(all, t);
+        put4(all, again);
+        put4(all, s);
+        for (int b : behind) {
+            all.write(b);
+        }
+        return all.toByteArray();
+    }
+
     static void put4(ByteArrayOutputStream to, long v) {
         for (int b = 0; b < 4; b++) {
             to.write((int) (v >> 8 * b & 255));
