@@ -28,6 +28,7 @@ public final class BoundsTest {
         writesNothing();
         writesFolded();
         writesNames();
+        writesNoStrings();
         writesTooMuch();
         namesToOut();
         outsOfBytes();
@@ -447,6 +448,11 @@ public final class BoundsTest {
         for (int kind = 0; kind <= 13; kind++) {
             found(kind == 0 || kind == 7 ? 1 : kind == 4 ? 2 : kind == 8 ? 8 : 0, x, "a", kind, 1);
         }
+        Text ends = new Text();
+        int abc = ends.letters("abc");
+        TypeFold inside = Calls.loaded(ends.words(abc, Text.info(7, 0, 0), 0).words(abc + 1, Text.info(7, 0, 0), 0));
+        found(2, inside, "bc", 0, 1);
+        found(1, inside, "abc", 0, 1);
         found(5, x, "ab", 0, 1);
         found(7, x, "\u00ff\u0001\u0080", 0, 1);
         Due.sentence("find: an empty tape is the empty name");
@@ -499,9 +505,43 @@ public final class BoundsTest {
             Due.is("a ring of all, the other way round", 200, Calls.loaded(back).ring(i));
             Due.is("a chain", 1, Calls.loaded(chain(200)).ring(i));
         }
+        ringsOfManyReferences();
+        ringsBehindAnotherLoad();
         Due.sentence("ring: Throws NoSuchElementException when there is no such type (1 .. N).");
         for (int i : new int[] {LEAST, -1, 0, 15, 200, 201, MOST}) {
             Due.throwing("ring(" + i + ")", NONE, () -> x.ring(i));
+        }
+    }
+
+    private static void ringsOfManyReferences() {
+        Text text = new Text().words(0, Text.info(4, 300, 0), 0);
+        for (int k = 0; k < 299; k++) {
+            text.words(0, 2, k);
+        }
+        TypeFold x = Calls.loaded(text.words(0, 3, 0).pointer(0).pointer(4).pointer(1));
+        Due.is("by the last of 300 references", 3, x.ring(1));
+        Due.is("not by the others", 1, x.ring(2));
+        Due.is("and back", 3, x.ring(4));
+    }
+
+    private static void ringsBehindAnotherLoad() {
+        Text all = new Text();
+        for (int i = 1; i <= 200; i++) {
+            all.pointer(i % 200 + 1);
+        }
+        for (int n : new int[] {1, 2, 5, 50, 100, 199}) {
+            TypeFold x = Calls.loaded(all);
+            Due.is("a ring of all", 200, x.ring(n));
+            Due.is("a chain behind it", 0, Calls.load(x, chain(n)));
+            for (int i = 1; i <= n; i++) {
+                Due.is("ring(" + i + ") of the chain", 1, x.ring(i));
+            }
+            Due.is("types of VOID and a ring behind it", 0, Calls.load(x, TextTest.pointers(n).pointer(n + 1)));
+            for (int i = 1; i <= n + 1; i++) {
+                Due.is("ring(" + i + ") of these", 1, x.ring(i));
+            }
+            Due.is("all again", 0, Calls.load(x, all));
+            Due.is("are a ring again", 200, x.ring(n));
         }
     }
 
@@ -556,6 +596,19 @@ public final class BoundsTest {
         empties.words(end, Text.info(4, 2, 0), 0, end, 0, 0, 0, 0, 0).words(0, Text.info(2, 0, 0), 0);
         Due.same("empty names wherever", new Text().struct("", 0, "", 0, 0, "", 0, 0).pointer(0).done(),
                 Calls.written(Calls.loaded(empties)));
+    }
+
+    /** What lies behind the last type may look like a place, and is none. */
+    private static void writesNoStrings() {
+        Due.sentence("the names in the order in which the types so written tell of them");
+        for (int kind : new int[] {4, 5, 6, 13}) {
+            Text text = new Text();
+            text.letters("\u0001");
+            text.letters("");
+            text.letters("x".repeat(300));
+            text.words(0, Text.info(kind, 1, 0), kind == 6 ? 4 : 0, 0, 0).words(new long[kind < 6 ? 1 : 0]);
+            Due.is("no name of kind " + kind, 24 + text.typeBytes() + 1, Calls.loaded(text).write());
+        }
     }
 
     /** One run of letters, each FORWARD being named by its end from some letter on. */

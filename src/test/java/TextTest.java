@@ -497,6 +497,7 @@ public final class TextTest {
         for (int k = 0; k < 600; k++) {
             text.words(at + 599 - k, 0);
         }
+        fullTextWritten();
         TypeFold x = new TypeFold();
         for (int loads = 0; loads < 3; loads++) {
             Due.is("load " + loads, 0, Calls.load(x, text));
@@ -508,6 +509,27 @@ public final class TextTest {
             Due.is("far too long", -1, x.write());
             Due.is("refused", 4, Calls.load(x, values(601)));
         }
+    }
+
+    /** 200 types and 600 values with short names, so that the text written anew has room, and is the same. */
+    private static void fullTextWritten() {
+        Text text = new Text();
+        for (int i = 0; i < 199; i++) {
+            text.forward(twoLetters(i), 0);
+        }
+        text.words(0, Text.info(6, 600, 0), 4);
+        for (int k = 0; k < 600; k++) {
+            text.words(text.place(twoLetters(k < 550 ? k % 60 : k - 300)), k);
+        }
+        TypeFold x = Loads.taken("200 types and 600 values", text);
+        Due.is("types", 200, x.look(1));
+        Due.same("written", text.done(), Calls.written(x));
+        Due.is("written again", 0, Calls.load(x, text));
+        Due.same("the same", text.done(), Calls.written(x));
+    }
+
+    private static String twoLetters(int k) {
+        return "" + (char) ('a' + k / 26) + (char) ('A' + k % 26);
     }
 
     private static Text ofAllKinds(int each) {
