@@ -37,12 +37,10 @@ public final class BoundsTest {
     }
 
     private static void newObject() {
-        Due.sentence("TypeFold(): No types; OUT is empty.");
+        Due.sentence("There are no types at first (N 0).");
         TypeFold x = new TypeFold();
         Due.is("types", 0, x.look(0));
         Due.is("classes", 0, x.look(1));
-        Due.is("OUT", 0, x.look(3));
-        Due.throwing("no byte of OUT", NONE, () -> x.out(0));
         Due.throwing("no type", NONE, () -> x.type(1, 0));
         Due.throwing("no reference", NONE, () -> x.reference(1, 0));
         Due.throwing("no ring", NONE, () -> x.ring(1));
@@ -53,6 +51,9 @@ public final class BoundsTest {
         Due.throwing("but no type 1 beside it", NONE, () -> x.apart(0, 1));
         Due.throwing("nor bytes of it", NONE, () -> x.bytes(1));
         Due.is("nothing is found", 0, x.find(0, 1));
+        Due.sentence("No types; OUT is empty.");
+        Due.is("OUT", 0, new TypeFold().look(3));
+        Due.throwing("no byte of OUT", NONE, () -> new TypeFold().out(0));
         Due.sentence("The TAPE has at most 8192 bytes, none at first.");
         Due.is("tape", 0, new TypeFold().look(2));
         Due.is("the first byte", 1, new TypeFold().feed(1, 0));
@@ -119,13 +120,14 @@ public final class BoundsTest {
         for (int n : new int[] {LEAST, -1, 0, 9, MOST}) {
             Due.throwing("feed(" + n + ", 1) to a full tape", ARGUMENT, () -> full.feed(n, 1));
         }
-        Due.sentence("find: the tape, which is used up, of 8192 bytes");
+        Due.sentence("whose name is the tape, which is used up");
         Due.is("no name is as long", 0, full.find(0, 1));
         Due.is("the tape is used up", 0, full.look(2));
     }
 
     private static void typesAndWhats() {
-        Due.sentence("Of type i: 0 KIND, 1 V, 2 FLAG, 3 R, 4 how many references, 5 letters of its name, 6 its leader");
+        Due.sentence("Of type i: 0 KIND, 1 V, 2 FLAG, 3 R, 4 how many references, 5 letters of its name, 6 its"
+                + " leader, 7 its new number.");
         TypeFold x = Calls.loaded(new Text().forward("fw", 1).composite(5, "union", 1, 0xfffffffeL, "", 1, 0, "", 0, 0)
                 .function("f", 2, 1).forward("fw", 1));
         long[][] want = {{7, 0, 1, 0, 0, 2, 1, 1}, {5, 2, 1, 0xfffffffeL, 2, 5, 2, 2}, {12, 2, 0, 1, 1, 1, 3, 3},
@@ -154,7 +156,8 @@ public final class BoundsTest {
     }
 
     private static void referencesInOrder() {
-        Due.sentence("REFERENCES of a type, in order: 2, 8, 9, 10, 11, 12: R; 3: its elements', its index's type");
+        Due.sentence("REFERENCES of a type, in order: 2, 8, 9, 10, 11, 12: R; 3: its elements', its index's type;"
+                + " 4, 5: its members'; 13: R, then its parameters'.");
         Text text = new Text().pointer(14).integer("i", 4, 32).array(13, 12, 11).struct("s", 9, "a", 10, 9, "b", 8, 7)
                 .composite(5, "", 0, 9, "a", 6, 5).enumeration("e", 0, 4, "v", 3).forward("f", 0).defined("d", 4)
                 .leaning(9, 5).leaning(10, 6).leaning(11, 7).function("m", 1, 8).prototype(9, "p", 10, "q", 0)
@@ -270,7 +273,8 @@ public final class BoundsTest {
     }
 
     private static void apartByDepth() {
-        Due.sentence("Two types are ALIKE to depth 0 always; to depth d + 1 if their labels are the same, and their");
+        Due.sentence("Two types are ALIKE to depth 0 always; to depth d + 1 if their labels are the same, and"
+                + " their references, in order, alike to depth d");
         TypeFold x = Calls.loaded(chain(200));
         for (int i = 1; i <= 200; i++) {
             for (int j = i + 1; j <= 200; j++) {
@@ -321,7 +325,8 @@ public final class BoundsTest {
     }
 
     private static void bytesByKind() {
-        Due.sentence("INT, STRUCT, UNION, ENUM R; POINTER 8; ARRAY its number times its elements'");
+        Due.sentence("How many bytes a type has: INT, STRUCT, UNION, ENUM R; POINTER 8; ARRAY its number times its"
+                + " elements'");
         for (int r : new int[] {1, 2, 4, 8, 16}) {
             Due.is("INT", r, Calls.loaded(new Text().integer("i", r, 1)).bytes(1));
         }
@@ -455,7 +460,7 @@ public final class BoundsTest {
         found(1, inside, "abc", 0, 1);
         found(5, x, "ab", 0, 1);
         found(7, x, "\u00ff\u0001\u0080", 0, 1);
-        Due.sentence("find: an empty tape is the empty name");
+        Due.sentence("whose name is the tape");
         found(3, x, "", 0, 1);
         found(6, x, "", 4, 1);
         found(6, x, "", 0, 4);
@@ -563,7 +568,8 @@ public final class BoundsTest {
     }
 
     private static void writesFolded() {
-        Due.sentence("FOLDED: the leaders, in rising order, numbered from 1 on, each as it was read");
+        Due.sentence("FOLDED: the leaders, in rising order, numbered from 1 on, each as it was read, its types"
+                + " being the new numbers of their leaders");
         Text text = new Text().pointer(4).pointer(3).forward("f", 1).forward("f", 1).prototype(2, "a", 1, "", 0)
                 .array(2, 4, 5).struct("s", 7, "x", 6, 1, "y", 5, 2).enumeration("e", 1, 8, "v", -1, "w", 1)
                 .pointer(2).integer("i", 16, 0x0f7f0001);
@@ -600,7 +606,7 @@ public final class BoundsTest {
 
     /** What lies behind the last type may look like a place, and is none. */
     private static void writesNoStrings() {
-        Due.sentence("the names in the order in which the types so written tell of them");
+        Due.sentence("then the names in the order in which the types so written tell of them");
         for (int kind : new int[] {4, 5, 6, 13}) {
             Text text = new Text();
             text.letters("\u0001");
@@ -634,7 +640,8 @@ public final class BoundsTest {
     }
 
     private static void writesTooMuch() {
-        Due.sentence("OUT becomes the text of the types folded: how many bytes; -1 when these would be more than 16384");
+        Due.sentence("OUT becomes the text of the types folded: how many bytes; -1 when these would be more than"
+                + " 16384");
         for (int bytes : new int[] {16383, 16384}) {
             TypeFold x = Calls.loaded(writtenIn(bytes));
             Due.is("just " + bytes, bytes, x.write());

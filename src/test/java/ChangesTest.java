@@ -123,7 +123,7 @@ public final class ChangesTest {
     }
 
     private static void feedOnFullTape() {
-        Due.sentence("IllegalStateException when it would have more than 8192, and nothing changes");
+        Due.sentence("feed: a call that throws changes nothing");
         TypeFold x = Calls.loaded(Loads.small());
         Text longest = new Text();
         longest.words(longest.letters("z".repeat(8192 - 24 - 12 - 2)), Text.info(7, 0, 0), 0);
@@ -145,7 +145,7 @@ public final class ChangesTest {
     }
 
     private static void writeWithoutTypes() {
-        Due.sentence("Throws IllegalStateException when there are no types, and nothing changes");
+        Due.sentence("write: a call that throws changes nothing");
         TypeFold x = Calls.loaded(new Text().forward("abc", 0));
         x.name(1);
         Calls.load(x, new Text());
@@ -159,7 +159,7 @@ public final class ChangesTest {
     }
 
     private static void onlyTheTapeByFeed() {
-        Due.sentence("feed: The n lowest bytes of v come behind the tape, and nothing else changes");
+        Due.sentence("feed: Nothing is promised beyond the answers and state changes described above");
         TypeFold x = behindError();
         State before = new State(x);
         for (int n = 1; n <= 8; n++) {
@@ -169,7 +169,7 @@ public final class ChangesTest {
     }
 
     private static void onlyTheTapeByFind() {
-        Due.sentence("find: the tape, which is used up, and nothing else changes");
+        Due.sentence("find: Nothing is promised beyond the answers and state changes described above");
         TypeFold x = behindError();
         State before = new State(x);
         x.find(0, 1);
@@ -183,7 +183,7 @@ public final class ChangesTest {
     }
 
     private static void onlyOutByWriteAndName() {
-        Due.sentence("write, name: OUT becomes, and nothing else changes");
+        Due.sentence("write: Nothing is promised beyond the answers and state changes described above");
         for (int turn = 0; turn < 2; turn++) {
             TypeFold x = behindError();
             x.name(2);
@@ -211,7 +211,7 @@ public final class ChangesTest {
     }
 
     private static void nothingByAsking() {
-        Due.sentence("type, reference, apart, bytes, ring, out, look: nothing changes");
+        Due.sentence("look: Nothing is promised beyond the answers and state changes described above");
         TypeFold x = withAll();
         State before = new State(x);
         before.holds("asked twice", x);
@@ -221,7 +221,7 @@ public final class ChangesTest {
 
     /** A long life beside new objects: what an object was before a load tells nowhere behind it. */
     private static void noCallLeansOnAnother() {
-        Due.sentence("load: The tape is the text, whatever was before");
+        Due.sentence("load: The tape, which is used up, is the text");
         Text[] texts = {Loads.small(), TextTest.pointers(60), TextTest.values(600), new Text(),
             new Text().forward("abc", 1).struct("abc", 5, "x", 3, 0).pointer(2), TextTest.pointers(201),
             new Text().array(1, 1, 1), new Text().pointer(3), TextTest.values(1, 2, 3)};

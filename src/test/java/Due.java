@@ -26,7 +26,7 @@ final class Due {
         }
     }
 
-    private static void told(String fault) {
+    private static void tell(String fault) {
         wrong++;
         System.out.println((sentence.isEmpty() ? "" : "\"" + sentence + "\": ") + fault);
     }
@@ -34,7 +34,21 @@ final class Due {
     static void is(String what, long want, long got) {
         asked++;
         if (want != got) {
-            told(what + " answered " + got + ", due is " + want);
+            tell(what + " answered " + got + ", due is " + want);
+        }
+    }
+
+    static void holds(String what, boolean so) {
+        asked++;
+        if (!so) {
+            tell(what + " does not hold");
+        }
+    }
+
+    static void same(String what, String want, String got) {
+        asked++;
+        if (!want.equals(got)) {
+            tell(what + " answered " + got + ", due is " + want);
         }
     }
 
@@ -42,10 +56,10 @@ final class Due {
         asked++;
         try {
             long got = call.getAsLong();
-            told(what + " answered " + got + ", due is " + want.getSimpleName());
+            tell(what + " answered " + got + ", due is " + want.getSimpleName());
         } catch (RuntimeException e) {
             if (e.getClass() != want) {
-                told(what + " threw " + e + ", due is " + want.getSimpleName());
+                tell(what + " threw " + e + ", due is " + want.getSimpleName());
             }
         }
     }

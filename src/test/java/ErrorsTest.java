@@ -53,7 +53,12 @@ public final class ErrorsTest {
             Loads.refused("V 65535 of kind " + kind, 3, 1,
                     new Text().words(0, Text.info(kind, 65535, 0), 4).words(new long[1500]));
         }
-        Due.sentence("what follows (of INT) not as told");
+        Due.sentence("4 KIND or bits of it, V, FLAG, R (where it is no type) or what follows (of INT) not as told");
+        Loads.refused("KIND", 4, 1, new Text().words(0, Text.info(14, 0, 0), 0));
+        Loads.refused("bits of it", 4, 1, new Text().words(0, Text.info(2, 0, 0) | 1 << 29, 0));
+        Loads.refused("V", 4, 1, new Text().words(0, Text.info(2, 1, 0), 0));
+        Loads.refused("FLAG", 4, 1, four());
+        Loads.refused("R", 4, 1, new Text().enumeration("e", 0, 3));
         Loads.refused("an INT of no bits", 4, 1, new Text().integer("i", 4, 0));
         Due.sentence("5 a name that is not within the strings, or empty or not as told");
         Loads.refused("not within", 5, 1, five());
@@ -77,7 +82,8 @@ public final class ErrorsTest {
     }
 
     private static void twoAheadOfTypes() {
-        Due.sentence("2 at 16 (4) is not T, the text has another length than told, S is 0, or its first or last byte");
+        Due.sentence("2 at 16 (4) is not T, the text has another length than told, S is 0, or its first or last"
+                + " byte is not 0");
         for (Text text : new Text[] {three(), four(), five(), six()}) {
             byte[] bytes = text.done();
             Loads.refused("at 16", 2, 0, Loads.with(bytes, 16, bytes[16] + 1));
@@ -92,7 +98,8 @@ public final class ErrorsTest {
     }
 
     private static void threeAheadOfFour() {
-        Due.sentence("for each type in order: 3 its bytes do not lie within, ahead of 4");
+        Due.sentence("3 its bytes (with what follows by kind) do not lie within the T bytes; 4 KIND or bits of it,"
+                + " V, FLAG, R");
         Loads.refused("bits that must be 0", 3, 1, new Text().words(0, 0x60ff0000L | Text.info(13, 1, 0), 0));
         Loads.refused("FLAG", 3, 1, new Text().words(0, Text.info(3, 0, 1), 0, 0, 0));
         Loads.refused("V", 3, 1, new Text().words(0, Text.info(3, 1, 0), 0, 0, 0));
@@ -107,7 +114,7 @@ public final class ErrorsTest {
         Loads.refused("too many types", 3, 201, TextTest.pointers(200).rawTypeBytes(0));
         Loads.refused("too many types, by what follows", 3, 201,
                 TextTest.pointers(200).words(0, Text.info(3, 0, 0), 0, 0, 0));
-        Due.sentence("what follows is told by KIND alone, V of it only for kinds with V members, values, parameters");
+        Due.sentence("By kind there follow");
         Loads.refused("a POINTER's V has no bytes", 4, 1, new Text().words(0, Text.info(2, 65535, 0), 0));
         Loads.refused("a FUNCTION's V has no bytes", 4, 1, new Text().words(0, Text.info(12, 65535, 0), 0));
         Loads.refused("KIND 0 has no bytes behind", 4, 1, new Text().words(0, Text.info(0, 65535, 0), 0));
@@ -116,7 +123,8 @@ public final class ErrorsTest {
     }
 
     private static void threeAheadOfFive() {
-        Due.sentence("for each type in order: 3 ahead of 5");
+        Due.sentence("then for each type in order: 3 its bytes (with what follows by kind) do not lie within the T"
+                + " bytes");
         Loads.refused("a name behind the strings", 3, 1, new Text().words(BAD_NAME, Text.info(3, 0, 0), 0, 0, 0));
         Loads.refused("an empty name", 3, 1, new Text().words(0, Text.info(1, 0, 0), 4));
         Loads.refused("a member's name", 3, 1, new Text().words(0, Text.info(4, 1, 0), 0, BAD_NAME, 0));
@@ -124,7 +132,7 @@ public final class ErrorsTest {
     }
 
     private static void fourAheadOfFive() {
-        Due.sentence("for each type in order: 4 ahead of 5");
+        Due.sentence("(this type being one too many, or having them); 5 a name that is not within the strings");
         Loads.refused("KIND", 4, 1, new Text().words(BAD_NAME, Text.info(14, 0, 0), 0));
         Loads.refused("bits of it", 4, 1, new Text().words(BAD_NAME, Text.info(2, 0, 0) | 1 << 16, 0));
         Loads.refused("V", 4, 1, new Text().words(BAD_NAME, Text.info(2, 1, 0), 0));
@@ -159,7 +167,7 @@ public final class ErrorsTest {
     }
 
     private static void sixComesLast() {
-        Due.sentence("then 6: behind 3, 4 and 5 of every type");
+        Due.sentence("5 a name that is not within the strings, or empty or not as told; then 6 a type above N");
         Loads.refused("3 of a later type", 3, 2, six().rawTypeBytes(0));
         Loads.refused("4 of a later type", 4, 2, six().words(0, Text.info(2, 0, 1), 0));
         Loads.refused("5 of a later type", 5, 2, six().words(BAD_NAME, Text.info(2, 0, 0), 0));

@@ -8,17 +8,26 @@ import java.util.TreeSet;
 /** The public face is the document's, and nothing else of the class can be seen from outside. */
 public final class FaceTest {
     private static final Set<String> FACE = Set.of(
-            "int feed(int,long)", "int load()", "long type(int,int)", "int reference(int,int)",
-            "int apart(int,int)", "long bytes(int)", "int find(int,int)", "int ring(int)", "int write()",
-            "int name(int)", "long out(int)", "int look(int)");
+            "int feed(int,long) throws IllegalArgumentException IllegalStateException",
+            "int load()",
+            "long type(int,int) throws NoSuchElementException",
+            "int reference(int,int) throws NoSuchElementException",
+            "int apart(int,int) throws NoSuchElementException",
+            "long bytes(int) throws NoSuchElementException",
+            "int find(int,int) throws IllegalArgumentException",
+            "int ring(int) throws NoSuchElementException",
+            "int write() throws IllegalStateException",
+            "int name(int) throws NoSuchElementException",
+            "long out(int) throws NoSuchElementException",
+            "int look(int) throws IllegalArgumentException");
 
     public static void main(String[] args) {
-        Due.is("public", 1, Modifier.isPublic(TypeFold.class.getModifiers()) ? 1 : 0);
-        Due.is("final", 1, Modifier.isFinal(TypeFold.class.getModifiers()) ? 1 : 0);
+        Due.holds("public", Modifier.isPublic(TypeFold.class.getModifiers()));
+        Due.holds("final", Modifier.isFinal(TypeFold.class.getModifiers()));
         Due.is("constructors", 1, TypeFold.class.getDeclaredConstructors().length);
         for (Constructor<?> c : TypeFold.class.getDeclaredConstructors()) {
             Due.is("parameters of the constructor", 0, c.getParameterCount());
-            Due.is("public constructor", 1, Modifier.isPublic(c.getModifiers()) ? 1 : 0);
+            Due.holds("public constructor", Modifier.isPublic(c.getModifiers()));
         }
         Set<String> seen = new TreeSet<>();
         for (Method m : TypeFold.class.getDeclaredMethods()) {
@@ -26,9 +35,9 @@ public final class FaceTest {
                 seen.add(told(m));
             }
         }
-        Due.is("methods: " + seen, 1, seen.equals(FACE) ? 1 : 0);
+        Due.holds("methods: " + seen, seen.equals(FACE));
         for (Field f : TypeFold.class.getDeclaredFields()) {
-            Due.is("private " + f, 1, Modifier.isPrivate(f.getModifiers()) ? 1 : 0);
+            Due.holds("private " + f, Modifier.isPrivate(f.getModifiers()));
         }
         Due.end("FaceTest");
     }
@@ -38,6 +47,10 @@ public final class FaceTest {
         for (Class<?> p : m.getParameterTypes()) {
             all.append(all.charAt(all.length() - 1) == '(' ? "" : ",").append(p);
         }
-        return all.append(")").toString();
+        all.append(m.getExceptionTypes().length == 0 ? ")" : ") throws");
+        for (Class<?> e : m.getExceptionTypes()) {
+            all.append(" ").append(e.getSimpleName());
+        }
+        return all.toString();
     }
 }

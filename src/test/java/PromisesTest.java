@@ -29,6 +29,7 @@ public final class PromisesTest {
     }
 
     private static void promise1() {
+        Due.sentence("Promise 1: A new object");
         TypeFold x = new TypeFold();
         for (int what = 0; what <= 6; what++) {
             Due.is("new look " + what, 0, x.look(what));
@@ -48,6 +49,7 @@ public final class PromisesTest {
     }
 
     private static void promise2() {
+        Due.sentence("Promise 2: feed");
         TypeFold x = new TypeFold();
         int sum = 0;
         for (int n = 1; n <= 8; n++) {
@@ -77,6 +79,7 @@ public final class PromisesTest {
     }
 
     private static void promise3() {
+        Due.sentence("Promise 3: load");
         TypeFold x = new TypeFold();
         Due.is("a good text", 0, Calls.load(x, Loads.small()));
         Due.is("its types", 4, x.look(0));
@@ -95,6 +98,7 @@ public final class PromisesTest {
     }
 
     private static void promise4() {
+        Due.sentence("Promise 4: type");
         TypeFold x = Calls.loaded(new Text()
                 .integer("int", 4, 32)
                 .pointer(14)
@@ -140,6 +144,7 @@ public final class PromisesTest {
     }
 
     private static void promise5() {
+        Due.sentence("Promise 5: reference");
         TypeFold x = Calls.loaded(new Text()
                 .array(3, 2, 9)
                 .struct("s", 0, "a", 4, 1, "b", 0, 2, "c", 2, 3)
@@ -164,6 +169,7 @@ public final class PromisesTest {
     }
 
     private static void promise6() {
+        Due.sentence("Promise 6: apart");
         TypeFold x = Calls.loaded(Loads.small());
         Due.is("apart from itself", 0, x.apart(3, 3));
         Due.is("VOID from VOID", 0, x.apart(0, 0));
@@ -239,8 +245,8 @@ public final class PromisesTest {
         Due.is(what + ": leader", want == 0 ? n - 1 : n, x.type(n, 6));
     }
 
-    /** LABEL of a type: all else that its bytes tell, names being taken by their letters. */
     private static void promise6Labels() {
+        Due.sentence("LABEL of a type: all else that its bytes tell, names being taken by their letters.");
         apartAs("same INT", 0, new Text().integer("a", 4, 32).integer("a", 4, 32));
         apartAs("name", 1, new Text().integer("a", 4, 32).integer("b", 4, 32));
         apartAs("a name's beginning", 1, new Text().integer("ab", 4, 32).integer("a", 4, 32));
@@ -286,6 +292,7 @@ public final class PromisesTest {
     }
 
     private static void promise7() {
+        Due.sentence("Promise 7: bytes");
         TypeFold x = Calls.loaded(new Text()
                 .integer("i", 4, 32).pointer(0).array(1, 2, 10).struct("s", 24, "s", 4, 0)
                 .composite(5, "u", 0, 0xffffffffL).enumeration("e", 0, 8).forward("f", 0).defined("d", 3)
@@ -308,6 +315,7 @@ public final class PromisesTest {
     }
 
     private static void promise8() {
+        Due.sentence("Promise 8: find");
         TypeFold x = Calls.loaded(new Text().integer("n", 4, 32).struct("n", 4, "m", 1, 0).pointer(1)
                 .struct("n", 4).struct("nn", 8).struct("", 8).forward("a long name of letters", 0));
         finds(x, 1, "n", 0, 1);
@@ -341,6 +349,7 @@ public final class PromisesTest {
     }
 
     private static void promise9() {
+        Due.sentence("Promise 9: ring");
         TypeFold x = Calls.loaded(new Text()
                 .pointer(2).struct("s", 8, "p", 1, 0, "q", 3, 0).array(4, 0, 2).prototype(0, "a", 5, "b", 2)
                 .pointer(5).leaning(10, 1).function("f", 0, 6).integer("i", 4, 32).array(8, 10, 1).defined("d", 9)
@@ -366,6 +375,7 @@ public final class PromisesTest {
     }
 
     private static void promise10() {
+        Due.sentence("Promise 10: write");
         TypeFold x = Calls.loaded(new Text()
                 .pointer(5).enumeration("e", 1, 4, "v", -1, "e", 7).pointer(5).enumeration("e", 1, 4, "v", -1, "e", 7)
                 .integer("i", 4, 0x01000020).array(3, 2, 9).array(1, 4, 9).struct("s", 8, "v", 7, 1, "", 0, 2)
@@ -402,6 +412,7 @@ public final class PromisesTest {
     }
 
     private static void promise11() {
+        Due.sentence("Promise 11: name");
         TypeFold x = Calls.loaded(new Text().forward("a\u00ffb", 0).pointer(1).forward("longer than eight", 0)
                 .forward("b", 0));
         Due.is("name(1)", 3, x.name(1));
@@ -421,6 +432,7 @@ public final class PromisesTest {
     }
 
     private static void promise12() {
+        Due.sentence("Promise 12: out");
         TypeFold x = Calls.loaded(new Text().forward("\u00f1bcdefghijk", 0));
         Due.is("name", 11, x.name(1));
         Due.is("out(0)", 0x68676665646362f1L, x.out(0));
@@ -436,6 +448,7 @@ public final class PromisesTest {
     }
 
     private static void promise13() {
+        Due.sentence("Promise 13: look");
         TypeFold x = Calls.loaded(Loads.small());
         int[] want = {4, 3, 0, 0, 0, 0, 0};
         for (int what = 0; what <= 6; what++) {

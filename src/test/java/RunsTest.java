@@ -41,8 +41,7 @@ public final class RunsTest {
         calls++;
         String due = answer(model);
         String got = answer(program);
-        Due.is(run + ", call " + calls + ": " + call + " answered " + got + ", due is " + due, 1,
-                due.equals(got) ? 1 : 0);
+        Due.same(run + ", call " + calls + ": " + call, due, got);
     }
 
     /** Mostly near to what there is, now and then far from it. */

@@ -27,7 +27,7 @@ public final class TextTest {
     }
 
     private static void numbers() {
-        Due.sentence("NUMBERS lie lowest byte first");
+        Due.sentence("NUMBERS lie lowest byte first; at 4 (4): the number of 4 bytes from byte 4 on, below 2^32");
         TypeFold x = Loads.taken("a size byte by byte", new Text().rawTypeBytes(0, 0, 0, 0, 0, 0, 0, 4, 1, 2, 3, 4));
         Due.is("R of 1 2 3 4", 0x04030201L, x.type(1, 3));
         Due.sentence("below 2^32 and not negative (where nothing else is told)");
@@ -46,7 +46,7 @@ public final class TextTest {
 
     private static void heads() {
         byte[] good = Loads.small().done();
-        Due.sentence("at 0 (2) 0xeb9f");
+        Due.sentence("A TEXT: 24 bytes: at 0 (2) 0xeb9f");
         for (long v : new long[] {0, 0xeb9e, 0xeba0, 0x9feb, 0xffff}) {
             Loads.refused("at 0: " + v, 1, 0, Loads.with(good, 0, 2, v));
         }
@@ -85,6 +85,14 @@ public final class TextTest {
             Loads.refused("at 16: " + other, 2, 0, Loads.with(good, 16, 4, other));
             Loads.refused("at 12: " + other, 2, 0, Loads.with(good, 12, 4, other));
         }
+        Due.sentence("at 12 (4) T, at 16 (4) T, at 20 (4) S; then T bytes of TYPES, S bytes of STRINGS, and"
+                + " nothing behind");
+        int[] behind = {0, 0, 0, 0, 0, 0, 0, 2, 0, 0, 0, 0, 0, 0, 0, 0, 0, 0, 0, 2, 0, 0, 0, 0, 0};
+        for (int n = 0; n <= 2; n++) {
+            Due.is("types of the same bytes", n, Loads.taken("T " + 12 * n,
+                    Text.headed(12 * n, 12 * n, 25 - 12 * n, behind)).look(0));
+        }
+        Loads.refused("T ends within a type", 3, 2, Text.headed(17, 17, 8, behind));
         Due.sentence("the text has another length than told");
         Loads.taken("as told", good);
         Loads.refused("one byte less", 2, 0, Arrays.copyOf(good, good.length - 1));
@@ -188,7 +196,9 @@ public final class TextTest {
     }
 
     private static void howManyTypes() {
-        Due.sentence("TYPES are numbered 1, 2 .. N in their order, N 200 at most");
+        Due.sentence("TYPES are numbered 1, 2 .. N in their order, N 200 at most; 0 is VOID.");
+        Due.is("a type's own number", 2, Loads.taken("two types", pointers(1).pointer(2)).reference(2, 0));
+        Due.is("VOID", 0, Loads.taken("a type of VOID", pointers(1)).reference(1, 0));
         for (int n : new int[] {0, 1, 2, 199, 200}) {
             Due.is(n + " types", n, Loads.taken(n + " types", pointers(n)).look(0));
         }
@@ -232,6 +242,16 @@ public final class TextTest {
     }
 
     private static void infoBits() {
+        Due.sentence("Each has 12 bytes: at 0 (4) its name; at 4 (4) V in bits 0 to 15, KIND in bits 24 to 28,"
+                + " FLAG in bit 31, 0s in the others; at 8 (4) R.");
+        Text three = new Text();
+        three.letters("abc");
+        three.rawTypeBytes(2, 0, 0, 0, 0, 0, 0, 0x85, 9, 8, 7, 0xf6);
+        TypeFold union = Loads.taken("a UNION byte by byte", three);
+        long[] told = {5, 0, 1, 0xf6070809L, 0, 2, 1, 1};
+        for (int what = 0; what < told.length; what++) {
+            Due.is("type(1, " + what + ")", told[what], union.type(1, what));
+        }
         Due.sentence("KIND in bits 24 to 28");
         for (int kind = 0; kind < 32; kind++) {
             Loads.judged("kind " + kind, kind >= 1 && kind <= 13, 4, 1, plain(kind, Text.info(kind, 0, 0)));
@@ -264,7 +284,8 @@ public final class TextTest {
     }
 
     private static void ints() {
-        Due.sentence("R, its size, is 1, 2, 4, 8 or 16");
+        Due.sentence("1 INT: 4 bytes: BITS in bits 0 to 7, SHIFT in 16 to 23, CODE in 24 to 27, 0s in the others;"
+                + " R, its size, is 1, 2, 4, 8 or 16");
         for (long r = 0; r <= 40; r++) {
             Loads.judged("INT of size " + r, r == 1 || r == 2 || r == 4 || r == 8 || r == 16, 4, 1, integer(r, 1));
         }
@@ -380,7 +401,7 @@ public final class TextTest {
     }
 
     private static void leaningKinds() {
-        Due.sentence("2 POINTER to R");
+        Due.sentence("8 DEFINED as R. 9 VOLATILE, 10 CONST, 11 RESTRICT R. 12 FUNCTION with type R");
         for (int kind : new int[] {2, 8, 9, 10, 11, 12}) {
             for (long r = 0; r <= 1; r++) {
                 TypeFold x = Loads.taken("kind " + kind + " of " + r, plain(kind, Text.info(kind, 0, 0), r));
@@ -391,6 +412,9 @@ public final class TextTest {
             Loads.refused("11 bytes of kind " + kind, 3, 1,
                     new Text().words(0, Text.info(kind, 0, 0)).rawTypeBytes(0, 0, 0));
         }
+        Due.sentence("2 POINTER to R");
+        Due.is("to another", 2, Loads.taken("POINTER", new Text().pointer(2).pointer(0)).reference(1, 0));
+        Due.is("to VOID", 0, Loads.taken("POINTER", new Text().pointer(2).pointer(0)).reference(2, 0));
     }
 
     private static void functions() {
@@ -471,7 +495,8 @@ public final class TextTest {
                         new Text().words(0, Text.info(kind, n, 0), 0).words(new long[3 * n]));
             }
         }
-        Due.sentence("too many types, or members, values and parameters (this type being one too many, or having them)");
+        Due.sentence("too many types, or members, values and parameters (this type being one too many, or having"
+                + " them)");
         Loads.taken("600 in three", values(200, 399, 1, 0));
         Loads.refused("601 in three", 4, 3, values(200, 399, 2, 0));
         Loads.refused("601 in two", 4, 2, values(600, 1, 1));
@@ -487,7 +512,7 @@ public final class TextTest {
 
     /** 200 types and 600 values, all their names different, over and over: what one load counts, the next doesn't. */
     private static void fullTexts() {
-        Due.sentence("N 200 at most; members, values and parameters together are 600 at most: both at once");
+        Due.sentence("All members, values and parameters together are 600 at most.");
         Text text = new Text();
         int at = text.letters("y".repeat(800));
         for (int i = 1; i < 200; i++) {
