@@ -465,6 +465,12 @@ public final class BoundsTest {
         found(6, x, "", 4, 1);
         found(6, x, "", 0, 4);
         found(0, x, "", 0, 7);
+        Text late = new Text();
+        int end = late.letters("a") + 1;
+        late.words(end - 1, Text.info(7, 0, 0), 0).words(end, Text.info(2, 0, 0), 0).words(end, Text.info(6, 0, 0), 4);
+        TypeFold y = Calls.loaded(late);
+        found(2, y, "", 0, 1);
+        found(3, y, "", 6, 1);
         Due.sentence("0 without one");
         for (String name : new String[] {"m", "b", "abc", "a\0", "\0", "\0a", "aa", "A"}) {
             found(0, x, name, 0, 1);
